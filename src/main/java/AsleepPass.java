@@ -736,8 +736,11 @@ public final class AsleepPass {
         }
 
         private boolean refuse(int fault, int at) {
-            found = fault;
-            place = at;
+            // The first FAULT met is the one that is told.
+            if (found == 0) {
+                found = fault;
+                place = at;
+            }
             return false;
         }
 

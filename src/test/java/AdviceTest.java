@@ -66,6 +66,10 @@ public final class AdviceTest {
         // DEPTH 4 behind the first: four falls by 9 of 10 each.
         Check.fraction("drop", x.drop(0), x.drop(1), 6561, 10000);
         Check.due("drop(2)", x.drop(2), 0);
+        Check.tell(x, "start 1;stretch 9 9;stretch 9 9;stretch 9 9;stretch 0 0;bearer plain 0 0;");
+        // Whoever is awake stays awake: a DROP ahead of the last one is too late.
+        Check.fraction("drop", x.drop(0), x.drop(1), 729, 1000);
+        Check.due("drop(2)", x.drop(2), 0);
         Check.tell(x, "start 9;" + "stretch 9 9;".repeat(9) + "bearer plain 0 0;");
         // At 9 a DROP does nothing; after one fall it lifts by one, after two by two.
         Check.due("drop(2), not ahead of the first", x.drop(2), 1);
@@ -93,8 +97,25 @@ public final class AdviceTest {
         Check.due("wakes(0)", x.wakes(0), 0);
         x.cold(0, 9);
         x.cold(1, 9);
-        // HARM 9, 9, 9, 0, 0: the third saved, or the first, or the second.
+        // HARM 9, 9, 9, 0, 0: two falls from DEPTH 2 wake it, or three of four.
         Check.due("swap(2)", x.swap(2), 3);
+        Check.tell(x, "start 1;stretch 0 0;stretch 0 0;stretch 0 0;stretch 0 9;stretch 0 9;stretch 0 9;"
+            + "bearer plain 0 0;bearer plain 0 9;carry 0 1;carry 4 1;");
+        // DEPTH 4 ahead of HARM 9, 0, 9: it does not wake.
+        Check.due("swap(2)", x.swap(2), NONE);
+        Check.tell(x, "start 1;stretch 0 0;stretch 0 9;stretch 0 9;stretch 0 0;bearer plain 0 0;bearer plain 0 9;carry 3 1;");
+        // DEPTH 2 behind the first, then two falls by 9 of 20 each.
+        Check.fraction("wakes", x.wakes(0), x.wakes(1), 81, 400);
+        Check.due("swap(2)", x.swap(2), 13);
+        Check.fraction("swap", x.swap(0), x.swap(1), 0, 1);
+        Check.tell(x, "start 1;stretch 1 9;stretch 2 4;bearer plain 0 0;bearer plain 7 8;carry 1 1;");
+        // HARM 10, then 9 which can't wake it; changed: HARM 2.
+        Check.fraction("swap", x.swap(0), x.swap(1), 1, 10);
+        Check.tell(x, "start 2;stretch 1 9;stretch 2 4;stretch 5 1;bearer plain 0 0;bearer plain 7 8;bearer twin 3 3;"
+            + "carry 1 1;carry 2 2;");
+        Check.due("swap(2)", x.swap(2), 1);
+        // Changed: HARM 2, 13, 8 from DEPTH 2: 2 of 20 by 13 of 20.
+        Check.fraction("swap", x.swap(0), x.swap(1), 13, 200);
     }
 
     private static void swapIsRefused() {

@@ -7,6 +7,7 @@ public final class BestTest {
         onOneStretch();
         lookingAhead();
         whateverTheDepth();
+        byOneAlone();
         ofSeveralTheLeast();
         refused();
         Check.finish();
@@ -58,6 +59,19 @@ public final class BestTest {
         Check.due("next(2, 0, 2)", x.next(2, 0, 2), 0);
         Check.due("next(2, 1, 1)", x.next(2, 1, 1), 1);
         Check.fraction("best", x.best(0), x.best(1), 0, 1);
+    }
+
+    /** One BEARER alone: THE BEST is THE ORDER, on ways of all lengths and from all DEPTHS. */
+    private static void byOneAlone() {
+        StringBuilder text = new StringBuilder("bearer plain 0 1;");
+        for (int i = 0; i < 10; i++) {
+            text.append("stretch ").append(3 * i % 10).append(' ').append(7 * i % 10).append(';');
+            AsleepPass x = Check.told(text.toString());
+            for (int depth = 1; depth <= 9; depth++) {
+                x.start(depth);
+                Check.fraction("best by one alone, from " + depth, x.best(0), x.best(1), x.wakes(0), x.wakes(1));
+            }
+        }
     }
 
     private static void ofSeveralTheLeast() {

@@ -33,6 +33,7 @@ public final class MarkedTest {
         Check.due("paths()", x.paths(), 1);
         Check.due("sure(0)", x.sure(0), 3);
         Check.due("wipe(2)", x.wipe(2), BAD);
+        Check.due("wipe(1), all stay", x.wipe(1), 1);
         Check.due("wipe(0)", x.wipe(0), 1);
         Check.due("paths()", x.paths(), 4);
     }
@@ -60,6 +61,11 @@ public final class MarkedTest {
         Check.due("the same again", x.paths(), 1);
         x.mark(0, 6);
         Check.due("both can't be", x.paths(), 0);
+        x.wipe(0);
+        x.mark(1, 7);
+        Check.due("eye(4): it can be reached, but not left so", x.eye(4), 0);
+        Check.due("eye(6)", x.eye(6), 1);
+        Check.due("eye(7)", x.eye(7), 2);
     }
 
     private static void pathsEndWhereItWakes() {
@@ -100,6 +106,10 @@ public final class MarkedTest {
         Check.due("eye(0)", x.eye(0), 8);
         x.mark(0, 1);
         Check.due("it can't fall where HARM is 0", x.paths(), 0);
+        AsleepPass one = Check.told("stretch 0 0;stretch 9 9;bearer plain 9 0;bearer plain 0 0;carry 1 1;");
+        Check.due("one PATH alone", one.paths(), 1);
+        Check.due("sure(0)", one.sure(0), 2);
+        Check.due("sure(1)", one.sure(1), 1);
         x.wipe(0);
         x.mark(1, 4);
         Check.due("it can't rise where HARM is 20", x.paths(), 0);

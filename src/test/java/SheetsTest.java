@@ -65,8 +65,11 @@ public final class SheetsTest {
         x.lay(0, 0, 255);
         Check.due("BYTES hold -1", x.read(0, 0, 0, 1), -20);
         x.sheet(0, 0, 2);
+        x.put(0, 2);
+        x.put(1, 2);
         Check.due("CELLS are 0 again", x.read(0, 0, 0, 1), 1);
         Check.due("stretch(0, 2)", x.stretch(0, 2), 0);
+        Check.due("stretch(1, 2)", x.stretch(1, 2), 2);
     }
 
     private static void lay(AsleepPass x, int k, int... cells) {

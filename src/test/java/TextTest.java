@@ -74,6 +74,10 @@ public final class TextTest {
         Check.due("BEARERS without STRETCHES", x.rule(1), 1);
         Check.tell(x, "stretch 1 1;stretch 1 1;bearer plain 0 0;");
         Check.due("THE ORDER has BEARER 0, if none is told", x.stretch(1, 2), 0);
+        Check.tell(x, "stretch 1 1;stretch 1 1;bearer plain 0 0;bearer plain 0 0;carry 0 1;carry 1 1;");
+        Check.tell(x, "stretch 1 1;stretch 1 1;bearer plain 0 0;bearer plain 0 0;");
+        Check.due("BEARER 0 again", x.stretch(0, 2), 0);
+        Check.due("BEARER 0 again", x.stretch(1, 2), 0);
     }
 
     private static void blanksAndTokens() {
@@ -104,6 +108,13 @@ public final class TextTest {
         Check.refused(x, "starts 5;", 2, 0);
         Check.refused(x, "star 5;", 2, 0);
         Check.refused(x, "plain 5 5;", 2, 0);
+        Check.refused(x, "xtart 5;", 2, 0);
+        Check.refused(x, "zebra", 2, 0);
+        Check.refused(x, "az 5;", 2, 0);
+        Check.refused(x, "`;", 1, 0);
+        Check.refused(x, "{;", 1, 0);
+        Check.refused(x, "/;", 1, 0);
+        Check.refused(x, ":;", 1, 0);
         Check.refused(x, "start 5; ;", 2, 9);
         Check.refused(x, "5;", 2, 0);
         Check.refused(x, ";", 2, 0);
@@ -178,6 +189,17 @@ public final class TextTest {
         Check.refused(x, "start 3; start 100", 4, 9);
         Check.refused(x, "stretch 0 0; carry 9 5; start 0;", 3, 30);
         Check.refused(x, "bearer 123", 1, 7);
+        Check.refused(x, "stretch 10 ?", 3, 8);
+        Check.refused(x, "stretch 1 10 ?", 3, 10);
+        Check.refused(x, "bearer pony ?", 2, 7);
+        Check.refused(x, "bearer tall 10 ?", 3, 12);
+        Check.refused(x, "bearer tall 1 10 ?", 3, 14);
+        Check.refused(x, "carry 10 ?", 3, 6);
+        Check.refused(x, "carry 1 6 ?", 3, 8);
+        Check.refused(x, "carry 1 5 5 ?", 2, 10);
+        Check.refused(x, "start start ?", 2, 6);
+        Check.refused(x, "bearer ? ", 1, 7);
+        Check.refused(x, "stretch ? 0 ?", 1, 8);
     }
 
     private static void whatATextTakesAway() {
