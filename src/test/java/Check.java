@@ -3,15 +3,28 @@ import java.nio.charset.StandardCharsets;
 /** Counts wrong answers; feeds texts. */
 final class Check {
     private static int wrong = 0;
+    private static int asked = 0;
+    private static String during = "";
 
     private Check() {
     }
 
+    /** What is tested from here on, told ahead of each wrong answer. */
+    static void during(String what) {
+        during = what + ": ";
+    }
+
+    /** How many answers were looked at. */
+    static int asked() {
+        return asked;
+    }
+
     static void due(String call, long got, long want) {
+        asked++;
         if (got != want) {
             wrong++;
             if (wrong <= 40) {
-                System.out.println(call + " answered " + got + ", due is " + want);
+                System.out.println(during + call + " answered " + got + ", due is " + want);
             }
         }
     }
@@ -71,8 +84,12 @@ final class Check {
         due(call + ", below", below, wantBelow);
     }
 
-    /** All that can be asked of STRETCHES, BEARERS, START and THE ORDER. */
+    /** All that can be asked of what there is and how many; the FAULT of the text stands last. */
     static String state(AsleepPass x) {
+        return stateButFault(x) + " " + x.fault();
+    }
+
+    static String stateButFault(AsleepPass x) {
         StringBuilder all = new StringBuilder();
         for (int what = 0; what < 3; what++) {
             all.append(x.rule(what)).append(' ');
@@ -85,6 +102,6 @@ final class Check {
         for (int what = 0; what < 6; what++) {
             all.append(x.count(what)).append(' ');
         }
-        return all.append(x.fault()).append(' ').append(x.torn()).toString();
+        return all.append(x.torn()).toString();
     }
 }
