@@ -40,6 +40,16 @@ final class BestEdges {
         best(Check.told("start 2;stretch 9 9;stretch 9 9;bearer plain 0 0;"), 81, 100);
     }
 
+    static void p19AwakeBehindARise() {
+        // 1 of 5 at once, or risen to 2 and fallen twice, by 1 of 4 and 3 of 10.
+        best(Check.told("start 1;stretch 4 0;stretch 5 0;stretch 6 0;bearer plain 0 0;"), 13, 50);
+    }
+
+    static void p19AtNineItStays() {
+        // By 1 of 20 each nine falls at once (whatever comes then), or once at 9 (19 of 20) and nine falls.
+        best(Check.told("start 9;" + "stretch1 0;".repeat(10) + "bearer plain0 0;"), 39, 10240000000000L);
+    }
+
     static void p19AtTheFirstStretchFromNobody() {
         // STEPS are far apart, but nobody hands it over ahead of STRETCH 0.
         best(Check.told("start 1;stretch 0 9;bearer plain 0 0;bearer plain 9 8;"), 1, 20);

@@ -315,6 +315,19 @@ final class MarkedEdges {
         paths(x, 1, 0, 3);
     }
 
+    static void p33FromDepthOne() {
+        AsleepPass x = two(1);
+        x.mark(0, 2);
+        paths(x, 2, 0, 1);
+        x.mark(1, 1);
+        paths(x, 1, 2, 1);
+    }
+
+    static void p33OfHarmZeroAndTwentyByOnePath() {
+        AsleepPass x = Check.told("start 5;stretch 0 0;stretch 9 9;bearer plain 9 0;bearer plain 0 0;carry 1 1;");
+        paths(x, 1, 2, 1);
+    }
+
     static void p33BehindWakingItDoesNeither() {
         AsleepPass x = Check.told("start 1;stretch 1 0;stretch 0 0;stretch 1 0;bearer plain 0 0;");
         x.mark(0, 0);
