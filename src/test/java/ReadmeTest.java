@@ -7,7 +7,6 @@ import java.nio.file.Files;
 import java.nio.file.Path;
 import java.util.regex.Matcher;
 import java.util.regex.Pattern;
-import javax.tools.ToolProvider;
 
 /** README.md tells the truth: its examples are compiled and run. The class's path is the first argument. */
 public final class ReadmeTest {
@@ -57,9 +56,9 @@ public final class ReadmeTest {
         Path out = Files.createTempDirectory("readme");
         Path file = Files.writeString(out.resolve("Example.java"), code);
         String classes = System.getProperty("java.class.path");
-        int failed = ToolProvider.getSystemJavaCompiler().run(null, null, null,
-                "-cp", classes, "-d", out.toString(), file.toString());
-        Check.due("README's examples compile", failed, 0);
+        Process javac = new ProcessBuilder("javac", "-cp", classes, "-d", out.toString(), file.toString())
+                .inheritIO().start();
+        Check.due("README's examples compile", javac.waitFor(), 0);
         Class<?> example = new URLClassLoader(new URL[] {out.toUri().toURL()}).loadClass("Example");
         // All that it needs is loaded here, so that nothing is left behind.
         example.getMethod("run");
